@@ -279,7 +279,6 @@ public final class OneGate {
   }
 
   public int best(int from, int to, int load, int what) {
-    if (!isTown(from) || !isTown(to)) return NO_SUCH;
     if (what != 0 && what != 1 && !isRoadOfWay(what)) return NO_SUCH;
     int code = seekMost(from, to, load);
     if (code != 0) return code == NOT_NOW ? NONE : code;
@@ -288,7 +287,7 @@ public final class OneGate {
   }
 
   public int takes(int from, int to, int load, int t) {
-    if (!isTown(from) || !isTown(to) || !isTown(t)) return NO_SUCH;
+    if (!isTown(t)) return NO_SUCH;
     int code = seekMost(from, to, load);
     if (code != 0) return code == NOT_NOW ? NONE : code;
     walker.follow(load, NONE);

@@ -54,6 +54,7 @@ public final class DeedsTest {
     Due.due("load ahead", gate.start(0, 1, 0), -3);
     Due.due("town ahead", gate.start(0, 9, 5), -2);
     Due.due("six", gate.count(2), 6);
+    Due.due("loads", gate.count(5), 100 + 999 + 1 + 15);
     Due.due("deeds", gate.count(9), 5);
     gate.undo(1);
     Due.due("room again", gate.start(1, 1, 8), 5);
@@ -151,6 +152,10 @@ public final class DeedsTest {
     sure.days(1, true);
     Due.due("always", sure.caravan(0, 4), 18);
     Due.due("drawn all the same", sure.seed(0), 12345);
+    OneGate rare = Due.told("towns 2;road 0 to 1 days 1 risk 1;caravan at 0 to 1 load 19;dues : 0;");
+    rare.send(0, 0);
+    rare.days(1, true);
+    Due.due("a draw of 0", rare.caravan(0, 4), 18);
     OneGate few = Due.told("towns 2;road 0 to 1 days 1 risk 10 sea;caravan at 0 to 1 load 9;dues : sea * 5;");
     few.send(0, 0);
     few.days(1, true);
@@ -206,6 +211,11 @@ public final class DeedsTest {
     Due.due("ten", gate.undo(10), 0);
     Due.due("the eldest are forgotten", gate.town(0, 0), 1);
     Due.due("no more", gate.undo(1), -3);
+    for (int i = 0; i < 25; i++) gate.rate(0, i % 10);
+    for (int i = 23; i > 13; i--) {
+      Due.due("one by one", gate.undo(1), i - 14);
+      Due.due("rate " + i, gate.town(0, 0), i % 10);
+    }
   }
 
   private static final String TWO = "towns 3;road 0 to 1 days 2 risk 5;road 1 to 2 days 1;road 2 to 0 days 3 sea;"
@@ -251,6 +261,8 @@ public final class DeedsTest {
     judged("cut to 8 bits", gate, 0, 1, 140, 0);
     Due.write(gate, 0, 3, 200, (1L << 32) + 200);
     judged("64 bits are looked at", gate, 1, 1, 140, 0);
+    Due.write(gate, 0, 3, 200, 1L << 32);
+    judged("64 bits are looked at", gate, 1, 1, 140, 0);
     Due.write(gate, 0, 3, -1, (1L << 32) - 1);
     judged("64 bits are looked at", gate, 1, 1, 140, 0);
     int seed = 0;
@@ -283,6 +295,16 @@ public final class DeedsTest {
     Due.due("day", gate.count(7), 0);
     Due.due("rate", gate.town(1, 0), 1);
     Due.due("load", gate.caravan(0, 4), 100);
+    gate.start(1, 2, 30);
+    gate.start(0, 2, 30);
+    Due.write(gate, 1, 1, 30);
+    Due.due("one alone", gate.perform(1), 1);
+    Due.due("caravan 3 on road 0", gate.caravan(3, 1), 0);
+    Due.due("one more call", gate.count(9), 3);
+    Due.write(gate, 1, 1, 21);
+    Due.due("one alone", gate.perform(1), 1);
+    Due.due("caravan 2 on road 1", gate.caravan(2, 1), 1);
+    gate.undo(4);
     Due.write(gate, 1, 1, 0, 200, 200);
     gate.seed(3);
     Due.due("with robbers", gate.perform(1), 3);

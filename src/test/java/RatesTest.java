@@ -101,6 +101,17 @@ public final class RatesTest {
     OneGate less = Due.told("towns 2;road 0 to 1 days 1;caravan at 0 to 1 load 30;dues : 9 - rate;rate 2 at 1;");
     Due.due("most by 0", less.bestRate(1), 0);
     Due.due("tempted", less.tempted(), 2);
+    less.rate(1, 1);
+    Due.due("by 0 alone", less.tempted(), 2);
+    less.rate(1, 0);
+    Due.due("no more", less.tempted(), 0);
+    OneGate last = Due.told("towns 2;road 1 to 0 days 1;caravan at 1 to 0 load 30;rate 8 at 0;");
+    Due.due("by 9 alone, the first town", last.tempted(), 1);
+    last.rate(0, 9);
+    Due.due("no more", last.tempted(), 0);
+    Due.due("grasping", last.grasping(), 0);
+    last.rate(0, 1);
+    Due.due("1 more is more", last.grasping(), 0);
     OneGate hill = Due.told("towns 2;road 0 to 1 days 1;caravan at 0 to 1 load 30;dues : rate * (8 - rate);rate 4 at 1;");
     Due.due("most by 4", hill.bestRate(1), 4);
     Due.due("nobody", hill.tempted(), 0);

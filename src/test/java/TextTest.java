@@ -113,6 +113,19 @@ public final class TextTest {
     while (whole.length() < 894) whole.append("day 3;");
     while (whole.length() < 900) whole.append(' ');
     good(whole.toString(), 1 + (900 - 8) / 6);
+    good("towns 2;" + "day 3;".repeat(147) + "day   003;", 149);
+    onlyTheFirst("towns 2;days", 11, 2, 11);
+    onlyTheFirst("towns 22;", 7, 2, 7);
+    onlyTheFirst("?", 0, 2, 0);
+    onlyTheFirst("towns 2;day 1;", 13, 2, 13);
+  }
+
+  /** What is on the tape behind the first n bytes is no part of the text. */
+  private static void onlyTheFirst(String tape, int n, int kind, int place) {
+    OneGate gate = new OneGate();
+    Due.feed(gate, tape.getBytes());
+    Due.due("the first " + n + " of " + tape, gate.roads(n), -30 - kind);
+    Due.due("place", gate.fault(1), place);
   }
 
   private static void laterOnesStrike() {
@@ -175,6 +188,19 @@ public final class TextTest {
     badAt("towns 2;^000", 2);
     badAt("towns 2;^;", 2);
     badAt("towns 2;^sea;", 2);
+    badAt("towns 2;^zeal 1;", 2);
+    badAt("towns 2;^dayz 1;", 2);
+    badAt("towns 2;road ^;", 2);
+    badAt("towns 2;caravan ^;", 2);
+    badAt("towns 2;rate ^;", 2);
+    badAt("towns 2;dues ^;", 2);
+    badAt("towns 2;opens ^;", 2);
+    badAt("towns 2;opens : ^;", 2);
+    badAt("towns 2;opens : 1 = 1 or ^;", 2);
+    badAt("towns 2;opens : 1 = 1 and ^;", 2);
+    badAt("towns 2;opens : 1 = ^;", 2);
+    badAt("towns 2;opens : not ^;", 2);
+    badAt("towns 2;opens : [ ^;", 2);
     badAt("towns 2;road ^to 1 days 1;", 2);
     badAt("towns 2;road 0 ^at 1 days 1;", 2);
     badAt("towns 2;road 0 to 1 ^day 1;", 2);
@@ -377,6 +403,7 @@ public final class TextTest {
     Due.due("by sea", plain.eats(1, 400), 116);
     Due.due("the load at most", plain.eats(1, 4), 4);
     Due.due("of nothing", plain.eats(1, 0), 0);
+    Due.due("of little", plain.eats(1, 1), 1);
     plain.days(1, false);
     Due.due("0 at least", plain.eats(0, 999), 0);
     Due.due("month 0 again", plain.eats(1, 999), 105);

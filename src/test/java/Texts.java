@@ -136,11 +136,33 @@ final class Texts {
     "1000", "01", "A", ".", "\t", "\u00e9", "\u0000", "zeal", "((((((", "not not not not not not", "[[[[[[",
   };
 
+  /** With something put in, left out or changed: another number, a line again and again, or any odd thing. */
   String spoilt(String whole) {
     int at = random.nextInt(whole.length() + 1);
+    switch (random.nextInt(5)) {
+      case 0: return anotherNumber(whole, at);
+      case 1: return again(whole, at);
+      default: break;
+    }
     int end = Math.min(whole.length(), at + (random.nextBoolean() ? 0 : random.nextInt(6)));
     String put = random.nextInt(3) == 0 ? "" : " " + ODD[random.nextInt(ODD.length)] + " ";
     if (random.nextInt(4) == 0) put = put.trim();
     return whole.substring(0, at) + put + whole.substring(end);
+  }
+
+  private String anotherNumber(String whole, int from) {
+    int at = from;
+    while (at < whole.length() && kindOf(whole.charAt(at)) != 2) at++;
+    int end = at;
+    while (end < whole.length() && kindOf(whole.charAt(end)) == 2) end++;
+    int[] numbers = {0, 1, 2, 5, 6, 7, 9, 10, 11, 40, 41, 999};
+    return whole.substring(0, at) + numbers[random.nextInt(numbers.length)] + whole.substring(end);
+  }
+
+  private static String again(String whole, int from) {
+    int at = whole.indexOf(';', from) + 1;
+    int end = whole.indexOf(';', at) + 1;
+    if (at < 1 || end < 1) return whole;
+    return whole.substring(0, at) + whole.substring(at, end).repeat(7) + whole.substring(at);
   }
 }

@@ -183,5 +183,9 @@ public final class TraysTest {
     gate.start(0, 1, 5);
     Due.due("loads", gate.count(5), 61);
     Due.due("no line", gate.count(11), 8);
+    OneGate home = Due.told("towns 2;road 1 to 0 days 1;caravan at 1 to 0 load 9;rate 4 at 0;");
+    home.send(0, 0);
+    home.days(1, false);
+    Due.due("chest of town 0", home.count(6), 4);
   }
 }

@@ -7,6 +7,7 @@ public final class WaysTest {
     promise22();
     bestOfEquals();
     bestByMonths();
+    bestByLoads();
     promise23();
     promise24();
     promise25();
@@ -126,6 +127,19 @@ public final class WaysTest {
     gate.days(1, false);
     // days 29, 30: 1 + 2 eaten, the gate on day 30 takes 10; days 31, 32: 4 eaten, then 10
     Due.due("a day later", gate.best(0, 2, 100, 0), 100 - 3 - 10 - 4 - 10);
+  }
+
+  /** What camels eat may change with the LOAD from day to day. */
+  private static void bestByLoads() {
+    String land = "towns 2;road 0 to 1 days 2;dues : 0;eats : ";
+    Due.due("50, then none", Due.told(land + "load - 50;").best(0, 1, 100, 0), 50);
+    Due.due("50, then none", Due.told(land + "0 - 50 + load;").best(0, 1, 100, 0), 50);
+    Due.due("50, then none", Due.told(land + "load - 20 - 30 + 0;").best(0, 1, 100, 0), 50);
+    Due.due("50, then 50", Due.told(land + "50;").best(0, 1, 100, 0), 0);
+    Due.due("the last", Due.told(land + "1;").best(0, 1, 1, 0), 0);
+    Due.due("all but the last", Due.told(land + "1;").best(0, 1, 3, 0), 1);
+    Due.due("never below 0", Due.told(land + "7;").best(0, 1, 3, 0), 0);
+    Due.due("never more", Due.told(land + "0 - 7;").best(0, 1, 3, 0), 3);
   }
 
   private static void promise23() {
