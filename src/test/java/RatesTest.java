@@ -6,6 +6,7 @@ public final class RatesTest {
     whoCounts();
     asToday();
     withoutRates();
+    asManyAsCanBe();
     Due.end();
   }
 
@@ -91,6 +92,26 @@ public final class RatesTest {
     gate.days(1, false);
     Due.due("it begins on day 60: no way", gate.arrives(), 0);
     Due.due("who has none, stays", gate.income(1), 0);
+  }
+
+  /** Six towns in a row, six caravans, ways of five roads. */
+  private static void asManyAsCanBe() {
+    StringBuilder text = new StringBuilder("towns 6;");
+    for (int t = 0; t < 5; t++) text.append("road " + t + " to " + (t + 1) + " days 1;");
+    for (int c = 0; c < 6; c++) text.append("caravan at 0 to 5 load " + (100 + c) + ";");
+    OneGate gate = Due.told(text + "rate 9 at 1;rate 9 at 2;rate 8 at 3;rate 9 at 4;rate 9 at 5;");
+    Due.due("arrives", gate.arrives(), 615 - 6 * 44);
+    Due.due("income", gate.income(5), 54);
+    Due.due("best rate", gate.bestRate(3), 9);
+    Due.due("tempted", gate.tempted(), 8);
+    Due.due("grasping", gate.grasping(), 1);
+    Due.due("reach", gate.reach(0, 0), 63);
+    Due.due("loads", gate.count(5), 615);
+    for (int c = 0; c < 6; c++) gate.send(c, 0);
+    Due.due("all arrive", gate.days(1, true), 6);
+    Due.due("chests", gate.count(6), 54);
+    Due.due("the last town's caravans", gate.town(5, 3), 0);
+    Due.due("the others'", gate.town(1, 3), 63);
   }
 
   private static void withoutRates() {

@@ -5,6 +5,7 @@ public final class ShortTest {
     promise34();
     promise35();
     smallLoads();
+    fiveGates();
     codes();
     Due.end();
   }
@@ -79,6 +80,22 @@ public final class ShortTest {
     Due.write(gate, 0, 0);
     Due.due("no roads", gate.lacks(0, 3, 3, 9), 0);
     Due.due("no roads", gate.weigh(0, 3, 3, 9), -1);
+  }
+
+  /** As many gates as can be: 198 197 196 195 194 by the laws. */
+  private static void fiveGates() {
+    OneGate gate = Due.told("towns 6;road 0 to 1 days 1;road 1 to 2 days 1;road 2 to 3 days 1;road 3 to 4 days 1;road 4 to 5 days 1;");
+    Due.due("best", gate.best(0, 5, 199, 0), 194);
+    Due.due("takes", gate.takes(0, 5, 199, 5), 1);
+    Due.write(gate, 0, 1, -1, -1, -1, -1, 175);
+    // Short by the first: 179 178 177 176 175, by the last: 194 - 19.
+    Due.due("each of them", gate.lacks(0, 0, 5, 199), 62);
+    Due.due("in the midst", gate.weigh(0, 0, 5, 199), 1);
+    Due.write(gate, 0, 1, 198, 197, 196, 195, -1);
+    Due.due("the last", gate.lacks(0, 0, 5, 199), 32);
+    Due.due("worst", gate.worst(0, 5, 199), 175);
+    Due.due("listed", gate.lists(0, 0, 5, 199), 5);
+    Due.due("none was short", gate.lacks(0, 0, 5, 199), 0);
   }
 
   private static void codes() {
