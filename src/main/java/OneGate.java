@@ -155,6 +155,7 @@ public final class OneGate {
   // ---- deeds
 
   public int seed(int n) {
+    remember(now);
     int was = now.x;
     now.x = n;
     return was;

@@ -33,7 +33,14 @@ public final class DeedsTest {
     Due.due("0 at first", gate.seed(5), 0);
     Due.due("what it was", gate.seed(-7), 5);
     Due.due("negative too", gate.seed(0), -7);
-    Due.due("no deed", gate.count(9), 0);
+    Due.due("each a deed", gate.count(9), 3);
+    Due.due("the latest undone", gate.undo(1), 2);
+    Due.due("x as it was", gate.seed(6), -7);
+    Due.due("two at once", gate.undo(2), 1);
+    Due.due("x as it was", gate.seed(6), 5);
+    Due.due("all", gate.undo(2), 0);
+    Due.due("x as at first", gate.seed(0), 0);
+    Due.due("a deed too if x stays", gate.count(9), 1);
   }
 
   private static void promise12() {
@@ -185,14 +192,14 @@ public final class DeedsTest {
     gate.days(1, true);
     gate.rate(1, 8);
     gate.start(1, 0, 5);
-    Due.due("four", gate.count(9), 4);
+    Due.due("five", gate.count(9), 5);
     Due.due("n", gate.undo(0), -3);
     Due.due("n", gate.undo(-1), -3);
-    Due.due("more than can be", gate.undo(5), -3);
-    Due.due("the latest", gate.undo(1), 3);
+    Due.due("more than can be", gate.undo(6), -3);
+    Due.due("the latest", gate.undo(1), 4);
     Due.due("caravans", gate.count(2), 1);
     Due.due("rate", gate.town(1, 0), 8);
-    Due.due("two more", gate.undo(2), 1);
+    Due.due("two more", gate.undo(2), 2);
     Due.due("rate", gate.town(1, 0), 3);
     Due.due("chest", gate.town(1, 1), 0);
     Due.due("day", gate.count(7), 0);
@@ -200,9 +207,14 @@ public final class DeedsTest {
     Due.due("on the road", gate.caravan(0, 1), 0);
     Due.due("left", gate.caravan(0, 2), 1);
     Due.due("x", gate.seed(78), 77);
-    Due.due("the first", gate.undo(1), 0);
+    Due.due("the seed alone", gate.undo(1), 2);
+    Due.due("still on the road", gate.caravan(0, 1), 0);
+    Due.due("sent", gate.undo(1), 1);
     Due.due("in the town", gate.caravan(0, 0), 0);
     Due.due("x as it was ahead of it", gate.seed(0), 77);
+    Due.due("both seeds", gate.undo(2), 0);
+    Due.due("x as told by the text", gate.seed(5), 0);
+    Due.due("undone", gate.undo(1), 0);
     for (int i = 0; i < 12; i++) {
       gate.rate(0, i % 10);
       Due.due("ten at most", gate.count(9), Math.min(10, i + 1));
@@ -216,6 +228,17 @@ public final class DeedsTest {
       Due.due("one by one", gate.undo(1), i - 14);
       Due.due("rate " + i, gate.town(0, 0), i % 10);
     }
+    seedsAreForgottenToo();
+  }
+
+  private static void seedsAreForgottenToo() {
+    OneGate gate = new OneGate();
+    gate.rate(0, 7);
+    for (int i = 1; i <= 10; i++) gate.seed(i);
+    Due.due("ten at most", gate.count(9), 10);
+    Due.due("all of them", gate.undo(10), 0);
+    Due.due("the rate was the eldest", gate.town(0, 0), 7);
+    Due.due("x ahead of the seeds", gate.seed(0), 0);
   }
 
   private static final String TWO = "towns 3;road 0 to 1 days 2 risk 5;road 1 to 2 days 1;road 2 to 0 days 3 sea;"
@@ -271,8 +294,8 @@ public final class DeedsTest {
     Due.write(gate, 0, 2, 0, 200, 200);
     judged("drawn", gate, -1, 0, 140 - 2 - 9 - 1, 1);
     judged("drawn alike again", gate, -1, 0, 140 - 2 - 9 - 1, 1);
+    Due.due("no deed but the seed", gate.count(9), 1);
     Due.due("x stays", gate.seed(0), seed);
-    Due.due("no deed", gate.count(9), 0);
   }
 
   private static void promise18() {
@@ -320,15 +343,15 @@ public final class DeedsTest {
     while (drawOf(nextX(none)) % 4 != 2 || drawOf(nextX(nextX(none))) % 10 < 2) none++;
     gate.seed(9);
     Due.due("none could be", gate.year(none, 1), 0);
-    Due.due("nothing changes", gate.count(9), 0);
+    Due.due("nothing changes but by the seed", gate.count(9), 1);
     Due.due("x neither", gate.seed(9), 9);
     int day = 0;
     while (drawOf(nextX(day)) % 4 > 1) day++;
     Due.due("a day", gate.year(day, 1), 1);
     Due.due("day", gate.count(7), 1);
-    Due.due("one call", gate.count(9), 1);
+    Due.due("one call", gate.count(9), 3);
     Due.due("x", gate.seed(4), nextX(day));
-    Due.due("undone", gate.undo(1), 0);
+    Due.due("undone, the seed behind it too", gate.undo(2), 2);
     Due.due("x as ahead of it", gate.seed(4), 9);
     int sent = 0;
     while (drawOf(nextX(sent)) % 4 != 2 || drawOf(nextX(nextX(sent))) % 10 != 0

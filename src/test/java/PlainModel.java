@@ -420,6 +420,7 @@ final class PlainModel {
   }
 
   int seed(int n) {
+    did(world.copy());
     int was = world.x;
     world.x = n;
     return was;

@@ -95,7 +95,7 @@ public final class TextTest {
     Due.due("chests stay", gate.count(6), 4);
     Due.due("lines stay", gate.count(11), 5);
     Due.due("day stays", gate.count(7), 32);
-    Due.due("undoing stays", gate.count(9), 2);
+    Due.due("undoing stays", gate.count(9), 3);
     Due.due("x stays", gate.seed(8), 7);
     Due.due("nothing on it", gate.roads(1), -3);
     Due.due("no text at all", gate.roads(0), -32);

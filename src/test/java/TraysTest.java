@@ -127,6 +127,7 @@ public final class TraysTest {
     Due.due("restored", gate.restore(0), 0);
     int[] counts = {3, 2, 1, 0, 1, 60 - 2 - 6, 6, 6, 0, 0, 20, 9};
     for (int what = 0; what < counts.length; what++) Due.due("count " + what, gate.count(what), counts[what]);
+    Due.due("nothing can be undone", gate.undo(1), -3);
     Due.due("x", gate.seed(1), 99);
     Due.due("rate", gate.town(2, 0), 8);
     Due.due("chest", gate.town(1, 1), 6);
@@ -135,7 +136,7 @@ public final class TraysTest {
     Due.due("eats", gate.eats(0, 99), 1);
     Due.due("opens", gate.open(0, 30), 0);
     Due.due("left", gate.caravan(0, 2), 1);
-    Due.due("nothing can be undone", gate.undo(1), -3);
+    Due.due("only the seed can be undone", gate.undo(1), 0);
     Due.due("trays are no part of it", gate.write(0, 2, 7), 7);
     Due.due("goes on", gate.days(1, false), 1);
     Due.due("the image doesn't", gate.restore(0), 0);
