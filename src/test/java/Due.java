@@ -4,8 +4,14 @@ import java.nio.charset.StandardCharsets;
 final class Due {
   private static int passed = 0;
   private static int failed = 0;
+  private static String test = "";
 
   private Due() {}
+
+  /** The test to which the answers belong that are asked from now on. */
+  static void begin(String name) {
+    test = name + ": ";
+  }
 
   static void due(String call, long got, long want) {
     if (got == want) {
@@ -13,7 +19,11 @@ final class Due {
       return;
     }
     failed++;
-    System.out.println(call + " answered " + got + ", due is " + want);
+    System.out.println(test + call + " answered " + got + ", due is " + want);
+  }
+
+  static int asked() {
+    return passed + failed;
   }
 
   /** Prints the count and leaves with 1 if an answer was wrong, or if nothing was asked. */
@@ -33,6 +43,30 @@ final class Due {
     byte[] bytes = text.getBytes(StandardCharsets.ISO_8859_1);
     feed(gate, bytes);
     return gate.roads(bytes.length);
+  }
+
+  /** A text without a fault, of so many lines. */
+  static void good(String text, int lines) {
+    OneGate gate = new OneGate();
+    due("roads: " + text, tell(gate, text), lines);
+    due("fault(0): " + text, gate.fault(0), 0);
+    due("fault(1): " + text, gate.fault(1), -1);
+    due("count(11): " + text, gate.count(11), lines);
+  }
+
+  static void bad(String text, int kind, int place) {
+    OneGate gate = new OneGate();
+    due("roads: " + text, tell(gate, text), -30 - kind);
+    due("fault(0): " + text, gate.fault(0), kind);
+    due("fault(1): " + text, gate.fault(1), place);
+    due("count(0): " + text, gate.count(0), 2);
+    due("count(10): " + text, gate.count(10), 0);
+    due("count(11): " + text, gate.count(11), 0);
+  }
+
+  /** A fault at the sign ^, which is left out of the text. */
+  static void badAt(String marked, int kind) {
+    bad(marked.replace("^", ""), kind, marked.indexOf('^'));
   }
 
   /** Feeds bytes, with blanks behind up to the next twenty. */

@@ -22,29 +22,6 @@ public final class TextTest {
     Due.end();
   }
 
-  private static void good(String text, int lines) {
-    OneGate gate = new OneGate();
-    Due.due("roads: " + text, Due.tell(gate, text), lines);
-    Due.due("fault(0): " + text, gate.fault(0), 0);
-    Due.due("fault(1): " + text, gate.fault(1), -1);
-    Due.due("count(11): " + text, gate.count(11), lines);
-  }
-
-  private static void bad(String text, int kind, int place) {
-    OneGate gate = new OneGate();
-    Due.due("roads: " + text, Due.tell(gate, text), -30 - kind);
-    Due.due("fault(0): " + text, gate.fault(0), kind);
-    Due.due("fault(1): " + text, gate.fault(1), place);
-    Due.due("count(0): " + text, gate.count(0), 2);
-    Due.due("count(10): " + text, gate.count(10), 0);
-    Due.due("count(11): " + text, gate.count(11), 0);
-  }
-
-  /** A fault at the sign ^, which is left out of the text. */
-  private static void badAt(String marked, int kind) {
-    bad(marked.replace("^", ""), kind, marked.indexOf('^'));
-  }
-
   private static void promise1() {
     OneGate gate = new OneGate();
     Due.due("NONE", OneGate.NONE, -1);
@@ -112,8 +89,8 @@ public final class TextTest {
     StringBuilder whole = new StringBuilder("towns 2;");
     while (whole.length() < 894) whole.append("day 3;");
     while (whole.length() < 900) whole.append(' ');
-    good(whole.toString(), 1 + (900 - 8) / 6);
-    good("towns 2;" + "day 3;".repeat(147) + "day   003;", 149);
+    Due.good(whole.toString(), 1 + (900 - 8) / 6);
+    Due.good("towns 2;" + "day 3;".repeat(147) + "day   003;", 149);
     onlyTheFirst("towns 2;days", 11, 2, 11);
     onlyTheFirst("towns 22;", 7, 2, 7);
     onlyTheFirst("?", 0, 2, 0);
@@ -145,160 +122,160 @@ public final class TextTest {
   }
 
   private static void tokens() {
-    good("towns2;road0to1days40risk10sea;", 2);
-    good("\n\n towns\n2 ; \n", 1);
-    good("towns 002;day 007;rate 009 at 001;", 3);
-    good("towns 6;road 5 to 0 days 01;caravan at 5 to 5 load 999;", 3);
+    Due.good("towns2;road0to1days40risk10sea;", 2);
+    Due.good("\n\n towns\n2 ; \n", 1);
+    Due.good("towns 002;day 007;rate 009 at 001;", 3);
+    Due.good("towns 6;road 5 to 0 days 01;caravan at 5 to 5 load 999;", 3);
   }
 
   private static void faultsOfTokens() {
-    badAt("^Towns 2;", 1);
-    badAt("towns 2;^R", 1);
-    badAt("towns 2;road 0 to 1 days ^1000;", 1);
-    badAt("towns 2;^0000", 1);
-    badAt("towns ^0002;", 1);
-    badAt("towns 2;\n^\tday 1;", 1);
-    badAt("towns 2^\r;", 1);
-    badAt("towns 2;^\u00e9", 1);
-    badAt("towns 2;^\u0000", 1);
-    badAt("towns 2;^.", 1);
-    badAt("towns 2;dues : 1 ^/ 2;", 1);
-    badAt("towns 2;dues : ^_;", 1);
-    badAt("towns 2;opens : 1 ^! 1;", 1);
-    badAt("towns 2;day ^\u007f;", 1);
-    badAt("towns 2;^{", 1);
-    badAt("towns 2;^`", 1);
-    badAt("towns 2;day 1^#", 1);
-    badAt("towns 2;^,", 1);
+    Due.badAt("^Towns 2;", 1);
+    Due.badAt("towns 2;^R", 1);
+    Due.badAt("towns 2;road 0 to 1 days ^1000;", 1);
+    Due.badAt("towns 2;^0000", 1);
+    Due.badAt("towns ^0002;", 1);
+    Due.badAt("towns 2;\n^\tday 1;", 1);
+    Due.badAt("towns 2^\r;", 1);
+    Due.badAt("towns 2;^\u00e9", 1);
+    Due.badAt("towns 2;^\u0000", 1);
+    Due.badAt("towns 2;^.", 1);
+    Due.badAt("towns 2;dues : 1 ^/ 2;", 1);
+    Due.badAt("towns 2;dues : ^_;", 1);
+    Due.badAt("towns 2;opens : 1 ^! 1;", 1);
+    Due.badAt("towns 2;day ^\u007f;", 1);
+    Due.badAt("towns 2;^{", 1);
+    Due.badAt("towns 2;^`", 1);
+    Due.badAt("towns 2;day 1^#", 1);
+    Due.badAt("towns 2;^,", 1);
   }
 
   private static void faultsOfPlaces() {
-    badAt("   ^", 2);
-    badAt("^town 2;", 2);
-    badAt("^;", 2);
-    badAt("^day 1;towns 2;", 2);
-    badAt("towns ^;", 2);
-    badAt("towns 2 ^3;", 2);
-    badAt("towns 2;^towns 2;", 2);
-    badAt("towns 2;day 1^", 2);
-    badAt("towns 2;day 1 \n^", 2);
-    badAt("towns 2;day ^;", 2);
-    badAt("towns 2;day 1 ^2;", 2);
-    badAt("towns 2;^days 1;", 2);
-    badAt("towns 2;^000", 2);
-    badAt("towns 2;^;", 2);
-    badAt("towns 2;^sea;", 2);
-    badAt("towns 2;^zeal 1;", 2);
-    badAt("towns 2;^dayz 1;", 2);
-    badAt("towns 2;road ^;", 2);
-    badAt("towns 2;caravan ^;", 2);
-    badAt("towns 2;rate ^;", 2);
-    badAt("towns 2;dues ^;", 2);
-    badAt("towns 2;opens ^;", 2);
-    badAt("towns 2;opens : ^;", 2);
-    badAt("towns 2;opens : 1 = 1 or ^;", 2);
-    badAt("towns 2;opens : 1 = 1 and ^;", 2);
-    badAt("towns 2;opens : 1 = ^;", 2);
-    badAt("towns 2;opens : not ^;", 2);
-    badAt("towns 2;opens : [ ^;", 2);
-    badAt("towns 2;road ^to 1 days 1;", 2);
-    badAt("towns 2;road 0 ^at 1 days 1;", 2);
-    badAt("towns 2;road 0 to 1 ^day 1;", 2);
-    badAt("towns 2;road 0 to 1 days ^risk 1;", 2);
-    badAt("towns 2;road 0 to 1 days 1 risk ^;", 2);
-    badAt("towns 2;road 0 to 1 days 1 risk ^sea;", 2);
-    badAt("towns 2;road 0 to 1 days 1 ^2;", 2);
-    badAt("towns 2;road 0 to 1 days 1 sea ^road", 2);
-    badAt("towns 2;caravan ^0 to 1 load 1;", 2);
-    badAt("towns 2;caravan at 0 ^at 1 load 1;", 2);
-    badAt("towns 2;caravan at 0 to 1 ^1;", 2);
-    badAt("towns 2;caravan at 0 to 1 load ^;", 2);
-    badAt("towns 2;caravan at 0 to 1 load 1 ^sea;", 2);
-    badAt("towns 2;rate ^at 1;", 2);
-    badAt("towns 2;rate 1 ^to 1;", 2);
-    badAt("towns 2;rate 1 at ^;", 2);
+    Due.badAt("   ^", 2);
+    Due.badAt("^town 2;", 2);
+    Due.badAt("^;", 2);
+    Due.badAt("^day 1;towns 2;", 2);
+    Due.badAt("towns ^;", 2);
+    Due.badAt("towns 2 ^3;", 2);
+    Due.badAt("towns 2;^towns 2;", 2);
+    Due.badAt("towns 2;day 1^", 2);
+    Due.badAt("towns 2;day 1 \n^", 2);
+    Due.badAt("towns 2;day ^;", 2);
+    Due.badAt("towns 2;day 1 ^2;", 2);
+    Due.badAt("towns 2;^days 1;", 2);
+    Due.badAt("towns 2;^000", 2);
+    Due.badAt("towns 2;^;", 2);
+    Due.badAt("towns 2;^sea;", 2);
+    Due.badAt("towns 2;^zeal 1;", 2);
+    Due.badAt("towns 2;^dayz 1;", 2);
+    Due.badAt("towns 2;road ^;", 2);
+    Due.badAt("towns 2;caravan ^;", 2);
+    Due.badAt("towns 2;rate ^;", 2);
+    Due.badAt("towns 2;dues ^;", 2);
+    Due.badAt("towns 2;opens ^;", 2);
+    Due.badAt("towns 2;opens : ^;", 2);
+    Due.badAt("towns 2;opens : 1 = 1 or ^;", 2);
+    Due.badAt("towns 2;opens : 1 = 1 and ^;", 2);
+    Due.badAt("towns 2;opens : 1 = ^;", 2);
+    Due.badAt("towns 2;opens : not ^;", 2);
+    Due.badAt("towns 2;opens : [ ^;", 2);
+    Due.badAt("towns 2;road ^to 1 days 1;", 2);
+    Due.badAt("towns 2;road 0 ^at 1 days 1;", 2);
+    Due.badAt("towns 2;road 0 to 1 ^day 1;", 2);
+    Due.badAt("towns 2;road 0 to 1 days ^risk 1;", 2);
+    Due.badAt("towns 2;road 0 to 1 days 1 risk ^;", 2);
+    Due.badAt("towns 2;road 0 to 1 days 1 risk ^sea;", 2);
+    Due.badAt("towns 2;road 0 to 1 days 1 ^2;", 2);
+    Due.badAt("towns 2;road 0 to 1 days 1 sea ^road", 2);
+    Due.badAt("towns 2;caravan ^0 to 1 load 1;", 2);
+    Due.badAt("towns 2;caravan at 0 ^at 1 load 1;", 2);
+    Due.badAt("towns 2;caravan at 0 to 1 ^1;", 2);
+    Due.badAt("towns 2;caravan at 0 to 1 load ^;", 2);
+    Due.badAt("towns 2;caravan at 0 to 1 load 1 ^sea;", 2);
+    Due.badAt("towns 2;rate ^at 1;", 2);
+    Due.badAt("towns 2;rate 1 ^to 1;", 2);
+    Due.badAt("towns 2;rate 1 at ^;", 2);
   }
 
   private static void faultsOfBounds() {
-    badAt("towns ^1;", 3);
-    badAt("towns ^7;", 3);
-    badAt("towns ^999", 3);
-    badAt("towns 3;road ^3 to 0 days 1;", 3);
-    badAt("towns 3;road 0 to ^3 days 1;", 3);
-    badAt("towns 3;road 2 to ^2 days 1;", 3);
-    badAt("towns 3;road 2 to ^02 .", 3);
-    badAt("towns 3;road 0 to 1 days ^0;", 3);
-    badAt("towns 3;road 0 to 1 days ^41;", 3);
-    badAt("towns 3;road 0 to 1 days 40 risk ^11;", 3);
-    badAt("towns 3;caravan at ^3 to 0 load 1;", 3);
-    badAt("towns 3;caravan at 0 to ^3 load 1;", 3);
-    badAt("towns 3;caravan at 0 to 1 load ^0;", 3);
-    badAt("towns 3;rate ^10 at 0;", 3);
-    badAt("towns 3;rate 9 at ^3;", 3);
+    Due.badAt("towns ^1;", 3);
+    Due.badAt("towns ^7;", 3);
+    Due.badAt("towns ^999", 3);
+    Due.badAt("towns 3;road ^3 to 0 days 1;", 3);
+    Due.badAt("towns 3;road 0 to ^3 days 1;", 3);
+    Due.badAt("towns 3;road 2 to ^2 days 1;", 3);
+    Due.badAt("towns 3;road 2 to ^02 .", 3);
+    Due.badAt("towns 3;road 0 to 1 days ^0;", 3);
+    Due.badAt("towns 3;road 0 to 1 days ^41;", 3);
+    Due.badAt("towns 3;road 0 to 1 days 40 risk ^11;", 3);
+    Due.badAt("towns 3;caravan at ^3 to 0 load 1;", 3);
+    Due.badAt("towns 3;caravan at 0 to ^3 load 1;", 3);
+    Due.badAt("towns 3;caravan at 0 to 1 load ^0;", 3);
+    Due.badAt("towns 3;rate ^10 at 0;", 3);
+    Due.badAt("towns 3;rate 9 at ^3;", 3);
   }
 
   private static void faultsOfTooMany() {
     String road = "road 0 to 1 days 1;";
     String caravan = "caravan at 0 to 1 load 1;";
-    good("towns 2;" + road.repeat(10) + caravan.repeat(6), 17);
-    badAt("towns 2;" + road.repeat(10) + "day 1;^" + road, 4);
-    badAt("towns 2;" + road.repeat(10) + "^road .", 4);
-    badAt("towns 2;" + caravan.repeat(6) + "day 1;^" + caravan, 4);
-    badAt("towns 2;" + road.repeat(10) + "^.", 1);
-    good("towns 2;dues : ((((((1))))));", 2);
-    badAt("towns 2;dues : ((((((^(1)))))));", 4);
-    badAt("towns 2;dues : 1 + 2 * ((((((3 - ^(", 4);
-    good("towns 2;dues : (1)+(1)+(1)+(1)+(1)+(1)+(1)*(1);", 2);
-    good("towns 2;opens : not not not not not not 1 = 1;", 2);
-    badAt("towns 2;opens : not not not not not not ^not 1 = 1;", 4);
-    badAt("towns 2;opens : not not not not not not ^[1 = 1];", 4);
-    badAt("towns 2;opens : not not not not not not ^(1) = 1;", 4);
-    good("towns 2;opens : [[[[[[1 = 1]]]]]] and [1 = 1] or not 1 = 1;", 2);
-    badAt("towns 2;opens : [[[[[[^[1 = 1]]]]]]];", 4);
-    good("towns 2;opens : not [ not [ ((1)) = (1) ] ];", 2);
-    badAt("towns 2;opens : not [ not [ ((1)) = ((^(1))) ] ];", 4);
-    badAt("towns 2;opens : 1 = ((((((^(", 4);
-    good("towns 2;opens : not 1=1 and not 1=1 and not 1=1 and not 1=1 and not 1=1 and not 1=1 or not 1=1;", 2);
-    badAt("towns 2;dues : ((((((1 ^(", 2);
-    badAt("towns 2;dues : ((((((^not", 2);
-    badAt("towns 2;opens : [[[[[[1 = ^[", 2);
+    Due.good("towns 2;" + road.repeat(10) + caravan.repeat(6), 17);
+    Due.badAt("towns 2;" + road.repeat(10) + "day 1;^" + road, 4);
+    Due.badAt("towns 2;" + road.repeat(10) + "^road .", 4);
+    Due.badAt("towns 2;" + caravan.repeat(6) + "day 1;^" + caravan, 4);
+    Due.badAt("towns 2;" + road.repeat(10) + "^.", 1);
+    Due.good("towns 2;dues : ((((((1))))));", 2);
+    Due.badAt("towns 2;dues : ((((((^(1)))))));", 4);
+    Due.badAt("towns 2;dues : 1 + 2 * ((((((3 - ^(", 4);
+    Due.good("towns 2;dues : (1)+(1)+(1)+(1)+(1)+(1)+(1)*(1);", 2);
+    Due.good("towns 2;opens : not not not not not not 1 = 1;", 2);
+    Due.badAt("towns 2;opens : not not not not not not ^not 1 = 1;", 4);
+    Due.badAt("towns 2;opens : not not not not not not ^[1 = 1];", 4);
+    Due.badAt("towns 2;opens : not not not not not not ^(1) = 1;", 4);
+    Due.good("towns 2;opens : [[[[[[1 = 1]]]]]] and [1 = 1] or not 1 = 1;", 2);
+    Due.badAt("towns 2;opens : [[[[[[^[1 = 1]]]]]]];", 4);
+    Due.good("towns 2;opens : not [ not [ ((1)) = (1) ] ];", 2);
+    Due.badAt("towns 2;opens : not [ not [ ((1)) = ((^(1))) ] ];", 4);
+    Due.badAt("towns 2;opens : 1 = ((((((^(", 4);
+    Due.good("towns 2;opens : not 1=1 and not 1=1 and not 1=1 and not 1=1 and not 1=1 and not 1=1 or not 1=1;", 2);
+    Due.badAt("towns 2;dues : ((((((1 ^(", 2);
+    Due.badAt("towns 2;dues : ((((((^not", 2);
+    Due.badAt("towns 2;opens : [[[[[[1 = ^[", 2);
   }
 
   private static void faultsOfLaws() {
-    good("towns 2;dues : month + sea - town * rate + load;", 2);
-    good("towns 2;eats : month + sea - road * load;", 2);
-    good("towns 2;opens : month = sea or road < 999 and 0 > 1;", 2);
-    badAt("towns 2;dues : ^road;", 2);
-    badAt("towns 2;eats : ^town;", 2);
-    badAt("towns 2;eats : ^rate;", 2);
-    badAt("towns 2;opens : ^town = 1;", 2);
-    badAt("towns 2;opens : 1 = ^rate;", 2);
-    badAt("towns 2;opens : ^load = 1;", 2);
-    badAt("towns 2;opens : [1 = ^load];", 2);
-    badAt("towns 2;dues ^1;", 2);
-    badAt("towns 2;eats : ^;", 2);
-    badAt("towns 2;eats : ^- 1;", 2);
-    badAt("towns 2;eats : 1 + ^;", 2);
-    badAt("towns 2;eats : 1 * ^+ 1;", 2);
-    badAt("towns 2;eats : 1 ^1;", 2);
-    badAt("towns 2;eats : (1 ^;", 2);
-    badAt("towns 2;eats : 1^);", 2);
-    badAt("towns 2;eats : (^);", 2);
-    badAt("towns 2;eats : 1 ^= 1;", 2);
-    badAt("towns 2;eats : ^[1];", 2);
-    badAt("towns 2;eats : ^not 1;", 2);
-    badAt("towns 2;eats : 1 ^and 1;", 2);
-    badAt("towns 2;eats : 1 ^sea;", 2);
-    badAt("towns 2;opens : 1 = 1 ^= 1;", 2);
-    badAt("towns 2;opens : (1 ^= 1);", 2);
-    badAt("towns 2;opens : [1^] = 1;", 2);
-    badAt("towns 2;opens : [1 = 1^;", 2);
-    badAt("towns 2;opens : 1 = 1^];", 2);
-    badAt("towns 2;opens : 1^;", 2);
-    badAt("towns 2;opens : 1 = 1 and ^or 1 = 1;", 2);
-    badAt("towns 2;opens : 1 = 1 ^not", 2);
-    badAt("towns 2;opens : not^", 2);
-    badAt("towns 2;opens : ^and 1 = 1;", 2);
+    Due.good("towns 2;dues : month + sea - town * rate + load;", 2);
+    Due.good("towns 2;eats : month + sea - road * load;", 2);
+    Due.good("towns 2;opens : month = sea or road < 999 and 0 > 1;", 2);
+    Due.badAt("towns 2;dues : ^road;", 2);
+    Due.badAt("towns 2;eats : ^town;", 2);
+    Due.badAt("towns 2;eats : ^rate;", 2);
+    Due.badAt("towns 2;opens : ^town = 1;", 2);
+    Due.badAt("towns 2;opens : 1 = ^rate;", 2);
+    Due.badAt("towns 2;opens : ^load = 1;", 2);
+    Due.badAt("towns 2;opens : [1 = ^load];", 2);
+    Due.badAt("towns 2;dues ^1;", 2);
+    Due.badAt("towns 2;eats : ^;", 2);
+    Due.badAt("towns 2;eats : ^- 1;", 2);
+    Due.badAt("towns 2;eats : 1 + ^;", 2);
+    Due.badAt("towns 2;eats : 1 * ^+ 1;", 2);
+    Due.badAt("towns 2;eats : 1 ^1;", 2);
+    Due.badAt("towns 2;eats : (1 ^;", 2);
+    Due.badAt("towns 2;eats : 1^);", 2);
+    Due.badAt("towns 2;eats : (^);", 2);
+    Due.badAt("towns 2;eats : 1 ^= 1;", 2);
+    Due.badAt("towns 2;eats : ^[1];", 2);
+    Due.badAt("towns 2;eats : ^not 1;", 2);
+    Due.badAt("towns 2;eats : 1 ^and 1;", 2);
+    Due.badAt("towns 2;eats : 1 ^sea;", 2);
+    Due.badAt("towns 2;opens : 1 = 1 ^= 1;", 2);
+    Due.badAt("towns 2;opens : (1 ^= 1);", 2);
+    Due.badAt("towns 2;opens : [1^] = 1;", 2);
+    Due.badAt("towns 2;opens : [1 = 1^;", 2);
+    Due.badAt("towns 2;opens : 1 = 1^];", 2);
+    Due.badAt("towns 2;opens : 1^;", 2);
+    Due.badAt("towns 2;opens : 1 = 1 and ^or 1 = 1;", 2);
+    Due.badAt("towns 2;opens : 1 = 1 ^not", 2);
+    Due.badAt("towns 2;opens : not^", 2);
+    Due.badAt("towns 2;opens : ^and 1 = 1;", 2);
   }
 
   private static void promise4() {
