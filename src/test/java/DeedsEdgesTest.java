@@ -510,6 +510,16 @@ public final class DeedsEdgesTest {
     Due.due("two days stay", gate.count(7), 2);
   }
 
+  static void promise16_theEldestAreForgottenStepByStep() {
+    OneGate gate = new OneGate();
+    for (int i = 0; i < 25; i++) gate.rate(0, i % 10);
+    for (int i = 23; i >= 14; i--) {
+      Due.due("still can be", gate.undo(1), i - 14);
+      Due.due("rate", gate.town(0, 0), i % 10);
+    }
+    Due.due("no more", gate.undo(1), -3);
+  }
+
   static void promise16_theLatestFirst() {
     OneGate gate = new OneGate();
     for (int n = 2; n <= 9; n++) gate.rate(0, n);
@@ -712,6 +722,19 @@ public final class DeedsEdgesTest {
     judged(0, 1, 140, 0, 1, 199);
   }
 
+  /** Six caravans and ten roads; the tenth and the others lead elsewhere. */
+  private static final String MOST = "towns 2;" + "road 1 to 0 days 1;".repeat(9) + ROAD + CARAVAN.repeat(6);
+
+  static void promise17_theLastCaravanAndRoad() {
+    OneGate gate = Due.told(MOST);
+    Due.write(gate, 0, 1, 59, 49, 39, 58);
+    Due.due("that one is on a road", gate.judge(0, 0), 3);
+    Due.due("why", gate.judge(0, 1), 2);
+    Due.write(gate, 0, 1, 59, 60);
+    Due.due("no seventh caravan", gate.judge(0, 0), 1);
+    Due.due("why", gate.judge(0, 1), 1);
+  }
+
   static void promise17_theLastTownsRate() {
     OneGate gate = Due.told("towns 6;");
     Due.write(gate, 0, 1, 150, 159, 100, 109, 160);
@@ -774,6 +797,33 @@ public final class DeedsEdgesTest {
       gate.write(2, 0, 201);
       return gate;
     });
+  }
+
+  static void promise18_oneDeed() {
+    OneGate gate = Due.told(MOST);
+    Due.write(gate, 0, 1, 59);
+    Due.due("one", gate.perform(0), 1);
+    Due.due("caravan 5 on road 9", gate.caravan(5, 1), 9);
+    Due.due("alone", gate.count(4), 32);
+    Due.due("a call", gate.count(9), 1);
+    Due.due("undone", gate.undo(1), 0);
+    Due.due("on no road", gate.count(4), 0);
+  }
+
+  static void promise18_theSecondCaravanOnTheFirstRoad() {
+    OneGate gate = Due.told("towns 2;" + ROAD + CARAVAN.repeat(2));
+    Due.write(gate, 0, 0, 10);
+    Due.due("one", gate.perform(0), 1);
+    Due.due("it alone", gate.count(4), 2);
+    Due.due("its road", gate.caravan(1, 1), 0);
+  }
+
+  static void promise18_theLastTownsRate() {
+    OneGate gate = Due.told("towns 6;");
+    Due.write(gate, 0, 1, 159, 100, 160);
+    Due.due("two", gate.perform(0), 2);
+    Due.due("the last", gate.town(5, 0), 9);
+    Due.due("the first", gate.town(0, 0), 0);
   }
 
   static void promise18_tillOneCantBe() {

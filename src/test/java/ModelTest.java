@@ -108,8 +108,13 @@ public final class ModelTest {
     call("worst", from, to, load);
   }
 
+  /** Bounds that the document names, those beside them, and the least and the greatest int. */
+  private static final int[] EDGES = {Integer.MIN_VALUE, -2, -1, 0, 1, 2, 3, 4, 5, 6, 7, 9, 10, 11, 14, 15, 39, 40, 41, 99,
+      100, 101, 199, 200, 201, 899, 900, 901, 998, 999, 1000, Integer.MAX_VALUE};
+
   private Object argument(char kind) {
     boolean odd = random.nextInt(25) == 0;
+    if (odd && random.nextBoolean() && "trclnfswy".indexOf(kind) >= 0) return EDGES[random.nextInt(EDGES.length)];
     switch (kind) {
       case 't': return odd ? random.nextInt(20) - 6 : random.nextInt(Math.max(1, model.map.towns));
       case 'r': return odd ? random.nextInt(20) - 6 : random.nextInt(10);

@@ -112,6 +112,12 @@ public final class RatesEdgesTest {
     Due.due("nothing", gate.arrives(), 0);
   }
 
+  static void promise29_throughTheFirstTown() {
+    OneGate gate = Due.told("towns 3;road 1 to 0 days 1;road 0 to 2 days 1;caravan at 1 to 2 load 100;rate 9 at 0;");
+    Due.due("its gate takes too", gate.arrives(), 90);
+    Due.due("as much", gate.income(0), 9);
+  }
+
   static void promise29_sixOfTheGreatestLoad() {
     Due.due("all", Due.told(FULL + "dues : 0;").arrives(), 6 * 999);
     Due.due("five gates", Due.told(FULL).arrives(), 6 * 994);
@@ -198,6 +204,10 @@ public final class RatesEdgesTest {
     Due.due("1 to 5", gate.tempted(), 62);
   }
 
+  static void promise31_theFirstTown() {
+    Due.due("0", Due.told("towns 2;road 1 to 0 days 1;caravan at 1 to 0 load 9;rate 8 at 0;").tempted(), 1);
+  }
+
   static void promise31_whoIsGoneAround() {
     OneGate gate = Due.told(FORK + "rate 9 at 1;rate 0 at 3;rate 8 at 2;");
     Due.due("1, and 3, but not 2", gate.tempted(), 2 + 8);
@@ -211,6 +221,16 @@ public final class RatesEdgesTest {
 
   static void promise32_leavesAll() {
     Rich.leavesAll(2, gate -> gate.grasping());
+  }
+
+  static void promise32_gatesTakeBehindItAsBefore() {
+    OneGate gate = Due.told("towns 2;" + ROAD + CARAVAN + "rate 9 at 1;");
+    Due.due("town", gate.grasping(), 1);
+    Due.due("best", gate.best(0, 1, 100, 0), 91);
+    Due.due("town", gate.grasping(), 1);
+    Due.due("income", gate.income(1), 9);
+    Due.due("town", gate.grasping(), 1);
+    Due.due("arrives", gate.arrives(), 91);
   }
 
   static void promise32_noWayNone() {

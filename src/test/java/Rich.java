@@ -57,7 +57,7 @@ final class Rich {
     if (!seen.equals(due)) System.out.println("  seen " + seen + "\n  due  " + due);
   }
 
-  /** Now, each step back, both images, the text on the tape, and the trays: some 450 calls. */
+  /** Now, each step back, both images, the text on the tape, and the trays: some 480 calls. */
   private static String all(OneGate gate) {
     StringBuilder seen = new StringBuilder();
     roadsAndLaws(gate, seen);
@@ -97,6 +97,8 @@ final class Rich {
     for (int c = 0; c < gate.count(2); c++) {
       for (int what : new int[] {0, 1, 2, 4}) put(seen, gate.caravan(c, what));
     }
+    put(seen, gate.best(0, 2, 99, 0));
+    put(seen, gate.arrives());
     // x can be seen only by telling another one, which is a deed.
     put(seen, gate.seed(1));
     gate.undo(1);

@@ -140,6 +140,15 @@ public final class ShortEdgesTest {
     Due.due("the second or third", gate.lacks(0, 0, 3, 999), 4 + 8);
   }
 
+  static void promise33_eatenAlong() {
+    OneGate gate = Due.told(ROW + "eats : 4;");
+    // By the laws 95 90 85; short by the second 95 81 76.
+    Due.write(gate, 0, 1, 95, 81, 76);
+    Due.due("the second", gate.lacks(0, 0, 3, 100), 4);
+    Due.write(gate, 0, 1, 95, 90, 85);
+    Due.due("none", gate.lacks(0, 0, 3, 100), 0);
+  }
+
   static void promise33_fiveGates() {
     OneGate gate = Due.told(FIVE);
     Due.write(gate, 3, 2, -1, -1, -1, -1, -1);
@@ -271,6 +280,10 @@ public final class ShortEdgesTest {
     Due.due("by the first", Due.told(ROW + "dues : (town - 1) * 40;").worst(0, 3, 200), 200 - 20 - 40 - 80);
     Due.due("by the last", Due.told(ROW + "dues : load - 100;").worst(0, 3, 200), 90);
     Due.due("of one gate", Due.told(ROW).worst(0, 1, 100), 90);
+  }
+
+  static void promise35_eatenAlong() {
+    Due.due("100 95, 86, 81, 76", Due.told(ROW + "eats : 4;").worst(0, 3, 100), 76);
   }
 
   static void promise35_fiveGates() {

@@ -260,6 +260,15 @@ public final class TextEdgesTest {
     Due.due("dues by the rate, no law", gate.dues(1, 99, false), 1);
   }
 
+  static void promise03_whatATextDoesntTellIsAsAtFirst() {
+    OneGate gate = Due.told("towns 6;day 999;rate 9 at 0;rate 9 at 1;" + CARAVAN + ROAD);
+    Due.due("a text of towns alone", Due.tell(gate, "towns 2;"), 1);
+    int[] counts = {2, 0, 0, 0, 0, 0, 0, 0, 0, 0, 0, 1};
+    for (int what = 0; what < counts.length; what++) Due.due("count " + what, gate.count(what), counts[what]);
+    Due.due("rate", gate.town(0, 0), 1);
+    Due.due("rate", gate.town(1, 0), 1);
+  }
+
   static void promise03_lawsOfAnEarlierTextAreGone() {
     OneGate gate = Due.told("towns 2;" + ROAD + "dues : 9;eats : 8;opens : 1 = 2;");
     Due.due("a text without laws", Due.tell(gate, "towns 2;" + ROAD), 2);
@@ -439,6 +448,11 @@ public final class TextEdgesTest {
     Due.badAt("towns 2;opens : [[[[[[^[1 = 1]]]]]]];", 4);
     Due.badAt("towns 2;opens : not not not not not not ^not 1 = 1;", 4);
     Due.badAt("towns 2;opens : not [ not [ not [ ^( 1 ) = 1 ] ] ];", 4);
+    Due.badAt("towns 2;opens : 1 = 1 or [[[[[[^[1 = 1]]]]]]];", 4);
+    Due.badAt("towns 2;opens : 1 = 1 and [[[[[[^[1 = 1]]]]]]];", 4);
+    Due.badAt("towns 2;opens : [[[[[[1 = 1 or ^not 1 = 1]]]]]];", 4);
+    Due.badAt("towns 2;opens : [[[[[[1 = 1 and ^not 1 = 1]]]]]];", 4);
+    Due.badAt("towns 2;dues : 1 * ((((((1 - 1 * ^(1)))))));", 4);
     Due.badAt("towns 2;opens : not [ not [ not [ 1 = ^( 1 ) ] ] ];", 4);
     Due.badAt("towns 2;opens : [ [ [ ( ( ( ^( 1", 4);
   }
@@ -459,6 +473,14 @@ public final class TextEdgesTest {
     Due.badAt("towns 2;^\r\n", 1);
     Due.badAt("towns 2;^\f", 1);
     Due.badAt("towns 2;^\u00a0", 1);
+  }
+
+  static void promise03_wordsOfSmallLettersFromAToZ() {
+    Due.badAt("towns 2;^abcdefghijklmnopqrstuvwxyz;", 2);
+    Due.badAt("towns 2;^dayz 1;", 2);
+    Due.badAt("towns 2;^aday 1;", 2);
+    Due.badAt("towns 2;day^Z 1;", 1);
+    Due.badAt("towns 2;^A", 1);
   }
 
   static void promise03_wordsGoOnAsLongAsTheyCan() {
@@ -497,6 +519,28 @@ public final class TextEdgesTest {
     Due.badAt("towns 2;opens : [1 = 1^", 2);
     Due.badAt("towns 2;road 0 to 1 days 1 risk^", 2);
     Due.badAt("towns 2;road 0 to 1 days 1^", 2);
+  }
+
+  static void promise03_truthsAndSumsAreNotTheSame() {
+    Due.badAt("towns 2;opens : 1^;", 2);
+    Due.badAt("towns 2;opens : [1^] = 1;", 2);
+    Due.badAt("towns 2;opens : (1 ^= 1);", 2);
+    Due.badAt("towns 2;opens : 1 = 1 ^= 1;", 2);
+    Due.badAt("towns 2;dues : 1 ^= 1;", 2);
+    Due.badAt("towns 2;dues : ^not 1;", 2);
+    Due.badAt("towns 2;eats : ^[1];", 2);
+    Due.badAt("towns 2;eats : 1 ^and 1;", 2);
+  }
+
+  static void promise03_noLawIsEmpty() {
+    Due.badAt("towns 2;dues : ^;", 2);
+    Due.badAt("towns 2;eats : (^);", 2);
+    Due.badAt("towns 2;opens : ^;", 2);
+    Due.badAt("towns 2;opens : [^];", 2);
+    Due.badAt("towns 2;opens : 1 = 1 or ^;", 2);
+    Due.badAt("towns 2;opens : 1 = 1 and ^;", 2);
+    Due.badAt("towns 2;dues : ^- 1;", 2);
+    Due.badAt("towns 2;dues : 1 * ^;", 2);
   }
 
   static void promise03_aWordOfAnotherLaw() {

@@ -275,6 +275,14 @@ public final class TraysEdgesTest {
     Due.due("256 in 16 bits", gate.judge(0, 1), 1);
   }
 
+  static void promise38_eatenAlong() {
+    OneGate gate = Due.told(FIVE + "eats : 4;");
+    Due.write(gate, 0, 1, 0, 0);
+    Due.due("two", gate.lists(0, 0, 2, 100), 2);
+    gate.write(0, 1, 81);
+    Due.due("95, and 90 less a tenth", gate.lacks(0, 0, 2, 100), 4);
+  }
+
   static void promise38_nothingLeft() {
     OneGate gate = Due.told("towns 2;" + ROAD + CARAVAN + "dues : load;");
     Due.write(gate, 0, 1, 119);
@@ -454,6 +462,15 @@ public final class TraysEdgesTest {
     Due.due("loads", gate.count(5), 5994 - 54);
     Due.due("chests", gate.count(6), 54);
     Due.due("day", gate.count(7), 1000);
+  }
+
+  static void promise41_chestsOfTheFirstAndTheLastTown() {
+    OneGate gate = Due.told("towns 6;road 1 to 0 days 1;road 1 to 5 days 1;caravan at 1 to 0 load 50;"
+        + "caravan at 1 to 5 load 50;rate 4 at 0;rate 9 at 5;");
+    gate.send(0, 0);
+    gate.send(1, 1);
+    gate.days(1, false);
+    Due.due("both", gate.count(6), 13);
   }
 
   static void promise41_onRoadsIsNotThere() {

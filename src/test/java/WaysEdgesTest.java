@@ -202,6 +202,23 @@ public final class WaysEdgesTest {
     Due.due("days", longer.best(0, 2, 9, 1), 10);
   }
 
+  static void promise22_notBackToWhereItBegan() {
+    OneGate gate = Due.told("towns 3;road 0 to 1 days 1;road 1 to 0 days 1;road 0 to 2 days 1;dues : 0;");
+    Due.due("no less arrives by 1 and 0, yet", gate.best(0, 2, 5, 10), 2);
+    Due.due("no second road", gate.best(0, 2, 5, 11), -1);
+  }
+
+  static void promise22_eatenOfWhatIsLeftEachDay() {
+    String land = "towns 2;road 0 to 1 days 2;dues : 0;eats : ";
+    Due.due("50, then none", Due.told(land + "load - 50;").best(0, 1, 100, 0), 50);
+    Due.due("1, then none", Due.told(land + "2 - load;").best(0, 1, 1, 0), 0);
+    Due.due("all but 1", Due.told(land + "1;").best(0, 1, 3, 0), 1);
+    Due.due("all", Due.told(land + "1;").best(0, 1, 2, 0), 0);
+    Due.due("the last one on the first day", Due.told(land + "1;").best(0, 1, 1, 0), 0);
+    Due.due("never below 0", Due.told(land + "7;").best(0, 1, 3, 0), 0);
+    Due.due("never more", Due.told(land + "0 - 7;").best(0, 1, 3, 0), 3);
+  }
+
   static void promise22_byOneMoreIsMost() {
     OneGate gate = Due.told("towns 2;road 0 to 1 days 3;road 0 to 1 days 2;eats : 1;dues : 0;");
     Due.due("the later road", gate.best(0, 1, 99, 10), 1);
@@ -275,6 +292,15 @@ public final class WaysEdgesTest {
     Due.due("the second what is left", gate.takes(0, 2, 10, 2), 3);
     Due.due("of 7 nothing is left", gate.takes(0, 2, 7, 2), 0);
     Due.due("of 1", gate.takes(0, 2, 1, 1), 1);
+  }
+
+  static void promise23_ofWhatIsLeftThere() {
+    OneGate gate = Due.told("towns 3;road 0 to 1 days 2;road 1 to 2 days 3;dues : load - 40;eats : 10;");
+    Due.due("of 80", gate.takes(0, 2, 100, 1), 40);
+    Due.due("of 10", gate.takes(0, 2, 100, 2), 0);
+    OneGate half = Due.told("towns 3;road 0 to 1 days 1;road 1 to 2 days 1;dues : load - 100 + town * 10;eats : 5;");
+    Due.due("of 195", half.takes(0, 2, 200, 1), 105);
+    Due.due("of 85", half.takes(0, 2, 200, 2), 5);
   }
 
   static void promise23_allFiveGates() {
