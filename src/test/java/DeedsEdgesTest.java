@@ -277,6 +277,15 @@ public final class DeedsEdgesTest {
     Due.due("month: 363 modulo 12", gate.count(8), 3);
   }
 
+  static void promise15_asManyCallsAsAnObjectIsUsedFor() {
+    OneGate gate = Due.told("towns 2;" + ROAD + "opens : month = 5;day 999;");
+    // Three to feed the text and one to read it, 505, and three more: 512.
+    for (int i = 0; i < 505; i++) gate.days(99, true);
+    Due.due("ten calls can be undone", gate.count(9), 10);
+    Due.due("day", gate.count(7), 999 + 505 * 99);
+    Due.due("in 999 days month 1733 modulo 12", gate.open(0, 999), 1);
+  }
+
   static void promise15_monthsTurn() {
     OneGate gate = Due.told("towns 2;day 28;");
     gate.days(1, false);
