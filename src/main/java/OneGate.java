@@ -489,17 +489,18 @@ public final class OneGate {
 
   /** Follows THE BEST WAY once for each GATE that may have kept a tenth: 0, or the refusing code. */
   private int seekSeen(int tray, int from, int to, int load) {
-    int code = seekIntoTray(tray, from, to, load);
+    int code = refusedTray(tray, from, to);
+    if (code == 0) code = seekMost(from, to, load);
     if (code != 0) return code;
     if (trays[tray].size != walker.most.size) return TOO_MANY;
     walker.followEach(load);
     return 0;
   }
 
-  private int seekIntoTray(int tray, int from, int to, int load) {
+  /** The code of a TRAY or a TOWN that there isn't, told ahead of the LOAD's; else 0. */
+  private int refusedTray(int tray, int from, int to) {
     if (!isTray(tray) || !isTown(from) || !isTown(to)) return NO_SUCH;
-    if (trays[tray].isMissing()) return MISSING;
-    return seekMost(from, to, load);
+    return trays[tray].isMissing() ? MISSING : 0;
   }
 
   private boolean canHaveKept(Tray seen, int keeper) {
@@ -542,7 +543,8 @@ public final class OneGate {
   }
 
   public int lists(int tray, int from, int to, int load) {
-    int code = seekIntoTray(tray, from, to, load);
+    int code = refusedTray(tray, from, to);
+    if (code == 0) code = seekMost(from, to, load);
     if (code != 0) return code;
     walker.follow(load, NONE);
     int n = Math.min(trays[tray].size, walker.most.size);
@@ -972,7 +974,8 @@ public final class OneGate {
         trail[depth] = r;
         int arrival = day + plan.length[r];
         int left = plan.leftAfter(r, load, day);
-        left -= takenOf(r, left, arrival);
+        // The GATE sees the DAY as it is, the last one on the road.
+        if (next != freeGate) left -= plan.takenAt(next, rates[next], left, arrival - 1, plan.bySea[r]);
         walk(next, seen | 1 << next, depth + 1, arrival, left, odds / 10 * (10 - plan.risk[r]));
       }
     }
@@ -987,22 +990,16 @@ public final class OneGate {
       found++;
     }
 
-    /** What the GATE at the end of a road TAKES of a LOAD that can be sent on from there on a day. */
-    private int takenOf(int r, int load, int sentOn) {
-      int town = plan.to[r];
-      if (town == freeGate) return 0;
-      return plan.takenAt(town, rates[town], load, sentOn - 1, plan.bySea[r]);
-    }
-
     /** Goes THE BEST WAY: behind and what was taken; the keeper, a place along (or NONE), keeps a tenth. */
     void follow(int load, int keeper) {
       int left = load;
       int day = first;
       for (int k = 0; k < most.size; k++) {
         int r = most.roads[k];
+        int town = plan.to[r];
         left = plan.leftAfter(r, left, day);
         day += plan.length[r];
-        taken[k] = takenOf(r, left, day);
+        taken[k] = town == freeGate ? 0 : plan.takenAt(town, rates[town], left, day - 1, plan.bySea[r]);
         left -= taken[k];
         if (k == keeper) left -= left / 10;
         behind[k] = left;
